@@ -19,8 +19,6 @@ public final class CrankBranches {
     private static final int FAULTY = 4;
     private static final int NOT_SO = 5;
 
-    private static final int TAPE_ROOM = 700;
-    private static final int FED_BYTES = 20;
     private static final int BARS = 0;
     private static final int TRACERS = 1;
     private static final int POINTS = 2;
@@ -30,10 +28,8 @@ public final class CrankBranches {
     private static final int WIDEST = 100;
     private static final int FARTHEST = 100;
 
-    private final byte[] tape = new byte[TAPE_ROOM];
-    private int taped = 0;
     private int refusal = FINE;
-    private final Reader reader = new Reader(tape);
+    private final Tape tape = new Tape();
     private Desk current = new Desk();
     private Desk spare = new Desk();
     private final Linkage linkage = new Linkage();
@@ -49,24 +45,23 @@ public final class CrankBranches {
     // ---- the desk
 
     public int feed(int a, int b, int c, int d, int e) {
-        if (taped + FED_BYTES > TAPE_ROOM) {
+        if (!tape.hasRoom()) {
             return NONE;
         }
-        putBytes(a);
-        putBytes(b);
-        putBytes(c);
-        putBytes(d);
-        putBytes(e);
-        return taped;
+        tape.put(a);
+        tape.put(b);
+        tape.put(c);
+        tape.put(d);
+        tape.put(e);
+        return tape.length();
     }
 
     public int desk(int n) {
-        if (refused(n >= 0 && n <= taped, NUMBER)) {
+        if (refused(n >= 0 && n <= tape.length(), NUMBER)) {
             return NONE;
         }
         // Read into the spare one: a text with a FAULT leaves the DESK as it was.
-        boolean fits = reader.reads(n, spare);
-        taped = 0;
+        boolean fits = tape.reads(n, spare);
         if (refused(fits, FAULTY)) {
             return NONE;
         }
@@ -80,12 +75,12 @@ public final class CrankBranches {
     }
 
     public int fault() {
-        return reader.faultFound();
+        return tape.faultFound();
     }
 
     public int where() {
         // desk() alone is refused by 4, so TROUBLE tells whether it was the latest one.
-        return refusal == FAULTY ? reader.faultPlace() : NONE;
+        return refusal == FAULTY ? tape.faultPlace() : NONE;
     }
 
     // ---- the turn
@@ -262,16 +257,18 @@ public final class CrankBranches {
         if (refused(hasLinkage(l), NO_SUCH)) {
             return NONE;
         }
+        linkageAt(l);
         int found = NO_WAY;
         long upper = 0;
         long lower = 1;
         for (int k = 0; k < Turn.COUNT; k++) {
-            Position at = positionAt(l, k);
-            long size = Math.abs(at.forceUpper());
-            if (at.isLawful() && (found == NO_WAY || size * lower < upper * at.forceLower())) {
+            position.set(linkage, k);
+            long size = Math.abs(position.forceUpper());
+            boolean less = found == NO_WAY || size * lower < upper * position.forceLower();
+            if (position.isLawful() && less) {
                 found = k;
                 upper = size;
-                lower = at.forceLower();
+                lower = position.forceLower();
             }
         }
         return found;
@@ -421,14 +418,14 @@ public final class CrankBranches {
         if (refused(hasCurve(l, i, branch) && current.has(POINTS, point), NO_SUCH)) {
             return NONE;
         }
+        linkageAt(l);
         int x = current.told(POINTS, point, 0);
         int y = current.told(POINTS, point, 1);
         for (int k = 0; k < Turn.COUNT; k++) {
-            if (positionAt(l, k).isLawful()) {
-                position.trace(current.told(TRACERS, i, 0), current.told(TRACERS, i, 1), branch);
-                if (position.isExactlyAt(x, y)) {
-                    return k;
-                }
+            position.set(linkage, k);
+            position.trace(current.told(TRACERS, i, 0), current.told(TRACERS, i, 1), branch);
+            if (position.isLawful() && position.isExactlyAt(x, y)) {
+                return k;
             }
         }
         return NO_WAY;
@@ -513,7 +510,8 @@ public final class CrankBranches {
             return false;
         }
         for (int other = 0; other < Turn.COUNT; other++) {
-            path.learn(other, positionAt(l, other).state());
+            position.set(linkage, other);
+            path.learn(other, position.state());
         }
         path.start(l, k, branch);
         return true;
@@ -603,7 +601,7 @@ public final class CrankBranches {
         if (what == 4) {
             return acts.count();
         }
-        return what == 5 ? taped : NONE;
+        return what == 5 ? tape.length() : NONE;
     }
 
     public int trouble() {
@@ -616,13 +614,6 @@ public final class CrankBranches {
     private boolean refused(boolean fits, int number) {
         refusal = fits ? FINE : number;
         return !fits;
-    }
-
-    private void putBytes(int number) {
-        for (int shift = 24; shift >= 0 && taped < tape.length; shift -= 8) {
-            tape[taped] = (byte) (number >> shift);
-            taped++;
-        }
     }
 
     private static boolean isOf(int what, int count) {
@@ -652,10 +643,14 @@ public final class CrankBranches {
     }
 
     private Curve curveAt(int l, int i, int branch) {
+        linkageAt(l);
+        int m = current.told(TRACERS, i, 0);
+        int n = current.told(TRACERS, i, 1);
         curve.empty();
         for (int k = 0; k < Turn.COUNT; k++) {
-            if (positionAt(l, k).isLawful()) {
-                position.trace(current.told(TRACERS, i, 0), current.told(TRACERS, i, 1), branch);
+            position.set(linkage, k);
+            if (position.isLawful()) {
+                position.trace(m, n, branch);
                 curve.add(position.tenthsX(), position.tenthsY(), k);
             }
         }
@@ -674,9 +669,11 @@ public final class CrankBranches {
     }
 
     private int countFrom(int l, int leastState) {
+        linkageAt(l);
         int count = 0;
         for (int k = 0; k < Turn.COUNT; k++) {
-            if (positionAt(l, k).state() >= leastState) {
+            position.set(linkage, k);
+            if (position.state() >= leastState) {
                 count++;
             }
         }
@@ -846,7 +843,7 @@ public final class CrankBranches {
         }
 
         boolean has(int sort, int i) {
-            return i >= 0 && i < count(sort);
+            return sort >= 0 && sort < SORTS && i >= 0 && i < counts[sort];
         }
 
         boolean isFull(int sort) {
@@ -874,23 +871,37 @@ public final class CrankBranches {
         }
     }
 
-    /** Reads the text of a DESK from the left, as far as the first FAULT. */
-    private static final class Reader {
+    /** THE TAPE; reads the text of a DESK from the left, as far as the first FAULT. */
+    private static final class Tape {
+        private static final int ROOM = 700;
+        private static final int FED = 20;
         private static final int FORM = 1;
         private static final int BOUNDS = 2;
         private static final int MANY = 3;
         private static final int LACKS = 4;
         private static final int DIGITS = 3;
 
-        private final byte[] text;
+        private final byte[] text = new byte[ROOM];
         private final int[] row = new int[4];
+        private int length = 0;
         private int end = 0;
         private int at = 0;
         private int found = 0;
         private int place = NONE;
 
-        Reader(byte[] text) {
-            this.text = text;
+        boolean hasRoom() {
+            return length + FED <= ROOM;
+        }
+
+        void put(int number) {
+            for (int shift = 24; shift >= 0 && length < ROOM; shift -= 8) {
+                text[length] = (byte) (number >> shift);
+                length++;
+            }
+        }
+
+        int length() {
+            return length;
         }
 
         int faultFound() {
@@ -901,17 +912,21 @@ public final class CrankBranches {
             return place;
         }
 
+        /** Whether the first n bytes are a DESK, now told to this one; THE TAPE is empty then. */
         boolean reads(int n, Desk desk) {
-            end = Math.min(Math.max(n, 0), text.length);
+            end = Math.max(0, Math.min(n, length));
+            length = 0;
             at = 0;
             found = 0;
             place = NONE;
             desk.clear();
             // Every LINE takes a byte at least, so there are no more LINES than bytes.
             for (int lines = 0; lines <= end; lines++) {
-                if (!readsLine(desk)) {
+                int sort = readsSort(desk);
+                if (sort == NONE || !readsRow(sort)) {
                     return false;
                 }
+                desk.add(sort, row);
                 skipBlanks();
                 if (at >= end) {
                     return desk.count(BARS) > 0 || fails(LACKS, at);
@@ -930,26 +945,21 @@ public final class CrankBranches {
             return false;
         }
 
-        private boolean readsLine(Desk desk) {
+        /** The sort of the LINE that begins here; NONE by a FAULT. */
+        private int readsSort(Desk desk) {
             skipBlanks();
             int first = at;
-            int sort = NONE;
-            for (int s = 0; s < SORTS && sort == NONE; s++) {
-                if (takesWord(lineWord(s))) {
-                    sort = s;
+            for (int sort = 0; sort < SORTS; sort++) {
+                if (takesWord(lineWord(sort))) {
+                    if (desk.isFull(sort)) {
+                        fails(MANY, first);
+                        return NONE;
+                    }
+                    return sort;
                 }
             }
-            if (sort == NONE) {
-                return fails(FORM, first);
-            }
-            if (desk.isFull(sort)) {
-                return fails(MANY, first);
-            }
-            if (!readsRow(sort)) {
-                return false;
-            }
-            desk.add(sort, row);
-            return true;
+            fails(FORM, first);
+            return NONE;
         }
 
         private static String lineWord(int sort) {
@@ -973,14 +983,14 @@ public final class CrankBranches {
         private boolean readsRow(int sort) {
             switch (sort) {
                 case BARS: return readsBars();
-                case TRACERS: return readsSigned(0, 20) && readsSigned(1, 20);
-                case POINTS: return readsSigned(0, 999) && readsSigned(1, 999);
+                case TRACERS: return readsTwo(20);
+                case POINTS: return readsTwo(999);
                 default: return readsAngle(0) && readsAngle(2);
             }
         }
 
         private boolean readsBars() {
-            for (int i = 0; i < 4; i++) {
+            for (int i = 0; i < row.length; i++) {
                 skipBlanks();
                 if (!takesWord(barWord(i))) {
                     return fails(FORM, at);
@@ -990,6 +1000,10 @@ public final class CrankBranches {
                 }
             }
             return true;
+        }
+
+        private boolean readsTwo(int most) {
+            return readsSigned(0, most) && readsSigned(1, most);
         }
 
         private boolean readsAngle(int i) {
@@ -1004,13 +1018,11 @@ public final class CrankBranches {
             if (below) {
                 at++;
             }
-            if (!readsWhole(i, 0, most)) {
-                return false;
-            }
+            boolean fits = readsWhole(i, 0, most);
             if (below) {
                 row[i] = -row[i];
             }
-            return true;
+            return fits;
         }
 
         private boolean readsWhole(int i, int least, int most) {
@@ -1063,20 +1075,16 @@ public final class CrankBranches {
 
     /** Four bars and what their lengths alone tell. */
     private static final class Linkage {
-        private final int[] bars = {1, 1, 1, 1};
         int g = 1;
         int a = 1;
         int b = 1;
         int c = 1;
 
         void take(Desk desk, int l) {
-            for (int i = 0; i < bars.length; i++) {
-                bars[i] = desk.told(BARS, l, i);
-            }
-            g = bars[0];
-            a = bars[1];
-            b = bars[2];
-            c = bars[3];
+            g = desk.told(BARS, l, 0);
+            a = desk.told(BARS, l, 1);
+            b = desk.told(BARS, l, 2);
+            c = desk.told(BARS, l, 3);
         }
 
         private int together() {
@@ -1117,12 +1125,16 @@ public final class CrankBranches {
             return b == smallest ? 2 : 3;
         }
 
-        /** A JOINT is of the bar of its number and the next one around. */
         boolean goesRound(int joint) {
-            int o = bars[joint & 3];
-            int w = bars[(joint + 1) & 3];
-            int s = bars[(joint + 2) & 3];
-            int t = bars[(joint + 3) & 3];
+            switch (joint) {
+                case 0: return turnsFully(a, g, b, c);
+                case 1: return turnsFully(b, a, g, c);
+                case 2: return turnsFully(c, b, g, a);
+                default: return turnsFully(g, c, a, b);
+            }
+        }
+
+        private static boolean turnsFully(int o, int w, int s, int t) {
             return Math.abs(s - t) <= Math.abs(o - w) && o + w <= s + t;
         }
 
@@ -1264,9 +1276,9 @@ public final class CrankBranches {
         /**
          * Sets what a TRACER traces here: ten times x is (along + across root of K) by 2 S N, so is y.
          */
-        void trace(int m, int n, int branch) {
-            long ahead = m * x - n * y;
-            long aside = m * y + n * x;
+        void trace(int tracerM, int tracerN, int branch) {
+            long ahead = tracerM * x - tracerN * y;
+            long aside = tracerM * y + tracerN * x;
             alongX = 20 * a * cosine * s + e * ahead;
             acrossX = -aside * signOf(branch);
             alongY = 20 * a * d * s + e * aside;
