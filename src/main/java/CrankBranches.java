@@ -373,25 +373,11 @@ public final class CrankBranches {
     }
 
     public int straight(int l, int i, int branch, int h) {
-        if (refused(hasCurve(l, i, branch), NO_SUCH)) {
-            return NONE;
-        }
-        if (refused(h >= 0 && h <= WIDEST, NUMBER)) {
-            return NONE;
-        }
-        curveAt(l, i, branch).findRun(h);
-        return curve.runLength();
+        return refusesRun(l, i, branch, h) ? NONE : curve.runLength();
     }
 
     public int straightFrom(int l, int i, int branch, int h) {
-        if (refused(hasCurve(l, i, branch), NO_SUCH)) {
-            return NONE;
-        }
-        if (refused(h >= 0 && h <= WIDEST, NUMBER)) {
-            return NONE;
-        }
-        curveAt(l, i, branch).findRun(h);
-        return curve.runAngle();
+        return refusesRun(l, i, branch, h) ? NONE : curve.runAngle();
     }
 
     public int near(int l, int i, int branch, int point, int place) {
@@ -469,24 +455,13 @@ public final class CrankBranches {
     }
 
     public int fit(int what) {
-        if (refused(hasLinkage(0) && isOf(what, 3), NO_SUCH)) {
-            return NONE;
-        }
-        if (refused(current.count(PAIRS) > 0, NOT_SO)) {
-            return NONE;
-        }
-        pairs.findBars(current.told(BARS, 0, 0));
-        return pairs.foundBar(what);
+        return refusesFit(isOf(what, 3)) ? NONE : pairs.foundBar(what);
     }
 
     public long fitMiss(boolean lower) {
-        if (refused(hasLinkage(0), NO_SUCH)) {
+        if (refusesFit(true)) {
             return NONE;
         }
-        if (refused(current.count(PAIRS) > 0, NOT_SO)) {
-            return NONE;
-        }
-        pairs.findBars(current.told(BARS, 0, 0));
         return Wholes.reduced(pairs.foundUpper(), pairs.foundLower(), lower);
     }
 
@@ -678,6 +653,23 @@ public final class CrankBranches {
             }
         }
         return count;
+    }
+
+    private boolean refusesRun(int l, int i, int branch, int h) {
+        if (refused(hasCurve(l, i, branch), NO_SUCH) || refused(h >= 0 && h <= WIDEST, NUMBER)) {
+            return true;
+        }
+        curveAt(l, i, branch).findRun(h);
+        return false;
+    }
+
+    /** A DESK has a LINKAGE at least, so without the first one there is no DESK. */
+    private boolean refusesFit(boolean such) {
+        if (refused(hasLinkage(0) && such, NO_SUCH) || refused(current.count(PAIRS) > 0, NOT_SO)) {
+            return true;
+        }
+        pairs.findBars(current.told(BARS, 0, 0));
+        return false;
     }
 
     private int missesOf(int l, int i, int branch) {
