@@ -106,6 +106,8 @@ public final class PromisesTest {
     fault("Bars", 1, 0);
     fault("bar", 1, 0);
     fault("barsx ground 1", 1, 0);
+    fault("barsa ground 1", 1, 0);
+    fault("barsz ground 1", 1, 0);
     fault("bars,ground 1", 1, 4);
     fault("bars groundxx 1", 1, 5);
     fault("bars ground", 1, 11);
@@ -542,6 +544,10 @@ public final class PromisesTest {
     due("41: a circle within its width", x.straightFrom(0, 1, 0, 100), 0);
     due("40: one point", Check.with(STOPS).straight(1, 0, 0, 0), 1);
     due("41: one point", Check.with(STOPS).straightFrom(1, 0, 0, 0), 19);
+    // A kite: the joint stays at (0, 0) through half the turn, then goes out to (6, 0) and comes back.
+    CrankBranches kite = Check.with("bars ground 3 crank 5 rod 5 arm 3;tracer 10 0");
+    due("40: first and last in one place, the farthest h from it", kite.straight(0, 0, 0, 60), 40);
+    due("40: the last two left out, by the line to (0.5, 1.7)", kite.straight(0, 0, 0, 59), 38);
     check.refused("40: h below 0", x, x.straight(0, 0, 0, -1), -1, 2);
     check.refused("40: h above 100", x, x.straight(0, 0, 0, 101), -1, 2);
     check.refused("40: 1 ahead of 2", x, x.straight(0, 3, 0, 101), -1, 1);
@@ -579,6 +585,13 @@ public final class PromisesTest {
     due("44: tenths cut off, x and y", cut.met(0, 0, 0, 0), -2);
     due("43: yet no miss", cut.miss(0, 0, 0, 0), 0);
     due("44: tenths cut off, y", cut.met(0, 0, 0, 1), -2);
+    CrankBranches first = Check.with("bars ground 13 crank 13 rod 18 arm 18;tracer 0 0;point -120 -50");
+    due("44: at the first angle", first.met(0, 0, 1, 0), 0);
+    CrankBranches aside = Check.with("bars ground 3 crank 3 rod 3 arm 3;tracer -5 10;point -15 60;point -16 60;"
+        + "point -15 61");
+    due("44: beside the rod", aside.met(0, 0, 0, 0), 29);
+    due("44: another x", aside.met(0, 0, 0, 1), -2);
+    due("44: another y", aside.met(0, 0, 0, 2), -2);
     check.refused("44: no such point", x, x.met(0, 0, 0, 3), -1, 1);
     check.refused("44: no such linkage", x, x.met(4, 0, 0, 0), -1, 1);
     CrankBranches flat = Check.with(STOPS);
