@@ -17,10 +17,16 @@ public final class AgainstModelTest {
       "reshape l4L", "undo", "unbuilt i", "size 6", "trouble",
       "begin lkb", "steps n", "steps n", "flip", "flip", "away kb", "reshape l4L", "undo"};
 
+  /** What later calls of an object answer is free. */
+  private static final int PROMISED = 512;
+  /** As many calls as a text of 700 bytes needs, and those that are made behind it. */
+  private static final int LOADING = 45;
+
   private final Random chance;
   private final Check check;
   private CrankBranches real = new CrankBranches();
   private Model model = new Model();
+  private int calls = 0;
 
   private AgainstModelTest(long seed, Check check) {
     this.chance = new Random(seed);
@@ -28,7 +34,7 @@ public final class AgainstModelTest {
   }
 
   public static void main(String[] args) throws Exception {
-    int runs = args.length > 0 ? Integer.parseInt(args[0]) : 150;
+    int runs = args.length > 0 ? Integer.parseInt(args[0]) : 240;
     long first = args.length > 1 ? Long.parseLong(args[1]) : 1;
     Check check = new Check();
     for (long seed = first; seed < first + runs; seed++) {
@@ -42,13 +48,17 @@ public final class AgainstModelTest {
   }
 
   private void run() throws Exception {
-    int calls = 40 + below(400);
-    for (int i = 0; i < calls; i++) {
-      if (i == 0 ? below(10) > 0 : below(100) == 0) {
+    int most = PROMISED - LOADING - below(300);
+    if (below(10) > 0) {
+      load();
+    }
+    while (calls < most) {
+      call();
+      if (below(100) == 0) {
         load();
       }
-      call();
     }
+    check.due("calls of one object", calls <= PROMISED, true);
   }
 
   private void load() throws Exception {
@@ -161,9 +171,9 @@ public final class AgainstModelTest {
       return new int[] {Integer.MIN_VALUE, Integer.MAX_VALUE, -1, 1000}[below(4)];
     }
     switch (kind) {
-      case 'l': return within(real.size(0), stray);
+      case 'l': return within(model.size(0), stray);
       case 'i': return within(4, stray);
-      case 'o': return within(real.size(2), stray);
+      case 'o': return within(model.size(2), stray);
       case 'k': return within(40, stray);
       case 'b': return within(2, stray);
       case 'p': return below(3) == 0 ? below(40) : below(8);
@@ -181,6 +191,7 @@ public final class AgainstModelTest {
   }
 
   private void both(String name, Object... values) throws Exception {
+    calls++;
     check.due(name + Arrays.toString(values), answer(real, name, values), answer(model, name, values));
   }
 

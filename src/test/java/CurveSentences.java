@@ -159,7 +159,20 @@ final class CurveSentences extends Sentences {
 
   @Says(promise = 36, term = "III", words = "that cut one another at an inner point of both")
   void p36_an_end_of_an_edge_on_another_is_no_crossing() {
+    // The first or the last point of the second EDGE or of the fourth, from either side.
     is(desk(TOUCH), 0, "crossings", 0, 0, 1);
+    is(desk("bars ground 12 crank 12 rod 2 arm 8;tracer 20 0"), 0, "crossings", 0, 0, 0);
+    is(desk("bars ground 12 crank 12 rod 2 arm 8;tracer 20 0"), 0, "crossings", 0, 0, 1);
+    is(desk("bars ground 6 crank 7 rod 3 arm 1;tracer 15 0"), 0, "crossings", 0, 0, 1);
+  }
+
+  @Says(promise = 36, term = "III", words = "that cut one another at an inner point")
+  void p36_edges_that_cut_one_another_close_to_an_end_do_cross() {
+    // Three points in a row of which one is on the other side make a figure whose area, twice, is 1.
+    is(desk("bars ground 11 crank 6 rod 3 arm 4;tracer 0 10"), 1, "crossings", 0, 0, 0);
+    is(desk("bars ground 9 crank 10 rod 4 arm 1;tracer 5 0"), 1, "crossings", 0, 0, 1);
+    is(desk("bars ground 4 crank 4 rod 1 arm 1;tracer 0 10"), 1, "crossings", 0, 0, 1);
+    is(desk("bars ground 12 crank 4 rod 4 arm 5;tracer 10 0"), 1, "crossings", 0, 0, 1);
   }
 
   @Says(promise = 36, term = "III", words = "not lying along one another")
@@ -180,6 +193,12 @@ final class CurveSentences extends Sentences {
     is(desk("bars ground 5 crank 5 rod 1 arm 1;tracer 10 0"), 0, "crossings", 0, 0, 0);
   }
 
+  @Says(promise = 36, words = "How many CROSSINGS")
+  void p36_the_first_edge_may_cross_too() {
+    // (47, -1) at 17, (66, 2) at 18, (54, -6) at 20, (70, 6) at 21.
+    is(desk("bars ground 6 crank 6 rod 1 arm 2;tracer 20 20"), 1, "crossings", 0, 0, 1);
+  }
+
   @Says(promise = 36, term = "III", words = "(with fewer than 2: none)")
   void p36_with_fewer_than_2_points_nothing_crosses() {
     CrankBranches x = onePoint("crossings", 0, 0, 0);
@@ -198,6 +217,15 @@ final class CurveSentences extends Sentences {
   @Says(promise = 37, term = "III", words = "none of them on a line between two others")
   void p37_a_point_on_a_line_between_two_others_is_no_corner() {
     is(desk(TOUCH), 3, "hull", 0, 0, 1);
+  }
+
+  @Says(promise = 37, term = "III", words = "the corners of the least figure without dents in which all its points are")
+  void p37_a_point_just_beside_a_line_is_a_corner() {
+    // (79, -22) at 18, (81, -7) at 19, (84, 15) at 20.
+    CrankBranches x = desk("bars ground 6 crank 13 rod 7 arm 1;tracer 7 0");
+    is(x, 3, "hull", 0, 0, 0);
+    are(x, new long[] {18, 20, 19}, "corner", 0, 0, 0);
+    is(x, 1, "hullArea", 0, 0, 0);
   }
 
   @Says(promise = 37, term = "III", words = "all in one place: one corner")
@@ -409,6 +437,8 @@ final class CurveSentences extends Sentences {
     // From (39, 0): 41 41 at 14, 11 11 + 40 40 at 15, 34 34 at 23, 41 41 at 24.
     are(desk(TOUCH + ";point 39 0"), new long[] {23, 14, 24, 15}, "near", 0, 0, 1, 0);
     are(desk(ONE_PLACE + ";point -999 999"), new long[] {18, 20}, "near", 0, 0, 0, 0);
+    // From (40, 10): 5 5 + 19 19 at 17, 8 8 + 17 17 at 18, 4 4 + 2 2 at 20, nothing at 21.
+    are(desk(CUT + ";point 40 10"), new long[] {21, 20, 18, 17}, "near", 0, 0, 0, 0);
   }
 
   // ---- promise 43
@@ -450,6 +480,15 @@ final class CurveSentences extends Sentences {
     is(x, 0, "miss", 0, 0, 0, 0);
     is(x, 1129 * 1129 + 999 * 999, "miss", 0, 0, 0, 1);
     is(x, 869 * 869 + 999 * 999, "miss", 0, 0, 0, 2);
+  }
+
+  @Says(promise = 43, term = "III", words = "MISS of a POINT at one of them")
+  void p43_at_the_first_of_a_curve_or_at_the_last() {
+    CrankBranches x = desk(CUT + ";point 35 -9;point 32 -7;point 44 8;point 40 10;point 40 12");
+    for (int point = 0; point < 4; point++) {
+      is(x, 0, "miss", 0, 0, 0, point);
+    }
+    is(x, 4, "miss", 0, 0, 0, 4);
   }
 
   // ---- promise 44
@@ -522,6 +561,17 @@ final class CurveSentences extends Sentences {
   void p45_1_is_met_ahead_of_5() {
     no(desk(FULL), NONE, 1, "best", 1, 2);
     no(desk(ROUND), NONE, 1, "best", 1, 0);
+  }
+
+  @Says(promise = 45, words = "The TRACER whose least MISSES of all POINTS, together, are fewest")
+  void p45_one_tracer_and_one_point_and_all_points_together() {
+    is(desk(ROUND + ";tracer 5 0;point 1 1"), 0, "best", 0, 0);
+    // The PIN is 20 from (0, 0); the JOINT comes to (40, 45) and not below 30.
+    String two = ROUND + ";tracer 0 0;tracer 10 0";
+    is(desk(two + ";point 40 45"), 1, "best", 0, 0);
+    is(desk(two + ";point 0 -20"), 0, "best", 0, 0);
+    is(desk(two + ";point 40 45;point 0 -20"), 0, "best", 0, 0);
+    is(desk(two + ";point 40 45;point 40 45;point 40 45;point 0 20;point 40 45"), 1, "best", 0, 0);
   }
 
   @Says(promise = 45, words = "of several the first")

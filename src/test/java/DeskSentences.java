@@ -104,6 +104,32 @@ final class DeskSentences extends Sentences {
     Check.feed(x, ONES + "9;tracer");
     is(x, 1, "desk", ONES.length());
     is(x, 1, "bar", 0, 3);
+    CrankBranches y = new CrankBranches();
+    Check.feed(y, "barsx");
+    no(y, NONE, 4, "desk", 4);
+    is(y, 4, "where");
+    String text = "tracer -1 -20;pair -5 1 5 0;" + ONES + ";point 100 -2";
+    for (int n = 0; n <= text.length(); n++) {
+      CrankBranches alone = new CrankBranches();
+      Check.feed(alone, text.substring(0, n) + " ".repeat(40));
+      CrankBranches more = new CrankBranches();
+      Check.feed(more, text);
+      due("desk(" + n + ")", more.desk(n), alone.desk(n));
+      due("where() of " + n, more.where(), alone.where());
+    }
+  }
+
+  @Says(promise = 3, words = "The first n bytes")
+  void p03_all_700_bytes_may_be_read() {
+    String[] ends = {"bars", "bars ground", "tracer -", "tracer 1 1", "point 1", ONES, ONES + ";", "tracer 1 - "};
+    int[] faults = {1, 1, 1, 4, 1, 0, 1, 1};
+    for (int i = 0; i < ends.length; i++) {
+      CrankBranches x = new CrankBranches();
+      Check.feed(x, " ".repeat(700 - ends[i].length()) + ends[i]);
+      due("desk(700) with '" + ends[i] + "' at its end", x.desk(700), faults[i] == 0 ? 1 : NONE);
+      is(x, faults[i], "fault");
+      is(x, faults[i] == 0 ? NONE : 700, "where");
+    }
   }
 
   @Says(promise = 3, words = "2 (n")
@@ -112,6 +138,10 @@ final class DeskSentences extends Sentences {
     no(x, NONE, 4, "desk", 0);
     is(x, 1, "fault");
     is(x, 0, "where");
+    Check.feed(x, "    " + ONES);
+    no(x, NONE, 4, "desk", 0);
+    is(x, 0, "where");
+    is(x, 0, "size", 5);
   }
 
   @Says(promise = 3, words = "NONE: 2 (n")
@@ -158,6 +188,36 @@ final class DeskSentences extends Sentences {
     }
     no(x, NONE, 1, "bar", 1, 0);
     no(x, NONE, 5, "fit", 0);
+    // Nor of the one before that, nor of a text with a FAULT.
+    String[] texts = {ONES + ";tracer 1 1;", ONES, ONES + ";point 1 1;x", ONES, FULL, ONES};
+    int[] linkages = {NONE, 1, NONE, 1, 4, 1};
+    for (int i = 0; i < texts.length; i++) {
+      due("desk of '" + texts[i] + "'", Check.desk(x, texts[i]), linkages[i]);
+    }
+    are(x, new long[] {1, 0, 0, 0}, "size");
+  }
+
+  @Says(promise = 3, words = "are the DESK from now")
+  void p03_a_full_desk_has_all_that_it_was_told() {
+    StringBuilder text = new StringBuilder();
+    for (int i = 7; i >= 0; i--) {
+      text.append("point ").append(100 + i).append(" -").append(200 + i).append(';');
+      if (i < 4) {
+        text.append("pair -").append(1 + i).append(' ').append(i).append(' ').append(i).append(" 5;");
+        text.append("tracer ").append(i).append(" -").append(10 + i).append(';');
+        text.append("bars ground ").append(1 + i).append(" crank ").append(5 + i).append(" rod ").append(9 + i);
+        text.append(" arm ").append(13 + i).append(i > 0 ? ";" : "");
+      }
+    }
+    CrankBranches x = desk(text.toString());
+    for (int i = 7; i >= 0; i--) {
+      are(x, new long[] {100 + i, -200 - i}, "point", 7 - i);
+      if (i < 4) {
+        are(x, new long[] {-1 - i, i, i, 5}, "pair", 3 - i);
+        are(x, new long[] {i, -10 - i}, "tracer", 3 - i);
+        are(x, new long[] {1 + i, 5 + i, 9 + i, 13 + i}, "bar", 3 - i);
+      }
+    }
   }
 
   @Says(promise = 3, words = "(no WALK, nothing to undo)")

@@ -35,6 +35,8 @@ final class PairSentences extends Sentences {
     fraction(desk(RHOMBUS + ";pair 1 1 1 1"), 0, 1, "closing", 0, 0);
     fraction(desk("bars ground 1 crank 1 rod 18 arm 1;pair 0 1 0 1"), 1 - 324, 1, "closing", 0, 0);
     fraction(desk("bars ground 18 crank 18 rod 1 arm 18;pair 1 0 0 1"), 54 * 54 - 1, 1, "closing", 0, 0);
+    // Of the last PAIR there is room for: half a turn of the crank alone.
+    fraction(desk(FULL), 13 * 13 - 5 * 5, 1, "closing", 0, 3);
   }
 
   @Says(promise = 47, term = "IV",
@@ -93,6 +95,7 @@ final class PairSentences extends Sentences {
     // With its sign it would be least by b 18; of the first PAIR alone 1, 4, 1 would be best, too.
     are(fitting(4, "pair 1 1 1 1;pair 1 1 -1 1"), new long[] {1, 4, 1}, "fit");
     are(fitting(2, "pair 0 1 0 1;pair 0 1 1 0"), new long[] {2, 1, 1}, "fit");
+    are(fitting(2, "pair 0 1 0 1;pair 0 1 0 1;pair 0 1 0 1;pair 0 1 1 0"), new long[] {2, 1, 1}, "fit");
   }
 
   @Says(promise = 48, term = "III", words = "FIT: with g of LINKAGE 0")
@@ -105,6 +108,8 @@ final class PairSentences extends Sentences {
     are(x, new long[] {1, 2, 1}, "fit");
     is(x, 5, "reshape", 1, 0, 1);
     are(x, new long[] {1, 2, 1}, "fit");
+    Check.desk(x, "bars ground 2 crank 9 rod 9 arm 9;pair 0 1 1 0");
+    are(x, new long[] {1, 1, 2}, "fit");
   }
 
   // ---- promise 49
@@ -129,6 +134,11 @@ final class PairSentences extends Sentences {
     CrankBranches x = fitting(4, "pair 1 1 1 1;pair 1 1 -1 1");
     are(x, new long[] {1, 4, 1}, "fit");
     fraction(x, 4, 1, "fitMiss");
+    CrankBranches y = new CrankBranches();
+    for (int times = 0; times < 3; times++) {
+      Check.desk(y, "bars ground 4 crank 9 rod 9 arm 9;pair 5 5 5 5;pair 5 5 -5 5;pair 5 5 5 5;pair 5 5 -5 5");
+      fraction(y, 4, 1, "fitMiss");
+    }
     // Of both signs: 3 in each.
     fraction(fitting(2, "pair -3 1 5 1;pair -3 1 -1 1"), 3, 1, "fitMiss");
   }
@@ -187,5 +197,18 @@ final class PairSentences extends Sentences {
       fraction(x, -1, 3, "three", 1);
       fraction(x, 1, 3, "three", 2);
     }
+  }
+
+  @Says(promise = 50, term = "IV",
+      words = "Fractions are told in lowest terms, the upper WHOLE (may be below 0) or the lower")
+  void p50_in_lowest_terms_and_below_0_by_the_upper_one() {
+    CrankBranches x = desk(ROUND + ";pair 1 1 1 2;pair 1 2 2 1;pair 2 1 1 3");
+    fraction(x, 33, 25, "three", 0);
+    fraction(x, -133, 75, "three", 1);
+    fraction(x, 1, 125, "three", 2);
+    CrankBranches y = desk(ROUND + ";pair -5 4 5 3;pair 5 5 -4 5;pair 3 5 5 0");
+    fraction(y, -51856, 143909, "three", 0);
+    fraction(y, -20056, 143909, "three", 1);
+    fraction(y, -129016, 143909, "three", 2);
   }
 }

@@ -18,6 +18,10 @@ final class PositionSentences extends Sentences {
     is(x, 0, "lawful", 0, 19);
     is(x, 1, "lawful", 0, 18);
     is(x, 1, "lawful", 0, 20);
+    // S is 1.
+    CrankBranches y = bars(2, 1, 1, 1);
+    fraction(y, 1, 1, "span", 0, 19);
+    is(y, 1, "lawful", 0, 19);
   }
 
   @Says(promise = 18, term = "II", words = "K 0 at least")
@@ -212,6 +216,11 @@ final class PositionSentences extends Sentences {
     is(x, -30, "joint", 0, 39, 1, 1);
     is(x, 0, "joint", 2, 29, 1, 0);
     is(x, -27, "joint", 0, 29, 1, 1);
+    // Ten times y is 20 by 8 times the root of 135, 29.05; and of 231, 37.997.
+    is(bars(1, 1, 3, 4), 29, "joint", 0, 39, 0, 1);
+    is(bars(1, 1, 3, 4), -30, "joint", 0, 39, 1, 1);
+    is(bars(1, 1, 4, 5), 37, "joint", 0, 39, 0, 1);
+    is(bars(1, 1, 4, 5), -38, "joint", 0, 39, 1, 1);
   }
 
   @Says(promise = 24, term = "II", words = "R is the root of K for BRANCH 0, that less than nothing for 1")
@@ -348,6 +357,12 @@ final class PositionSentences extends Sentences {
     fraction(x, 0, 1, "force", 0, 9);
     fraction(x, 0, 1, "force", 0, 29);
     is(x, 9, "easiest", 0);
+  }
+
+  @Says(promise = 28, words = "The LAWFUL ANGLE of THE TURN with the least FORCE")
+  void p28_it_may_be_the_first_of_the_turn_or_the_last() {
+    is(bars(3, 7, 7, 7), 0, "easiest", 0);
+    is(bars(1, 1, 1, 2), 39, "easiest", 0);
   }
 
   @Says(promise = 28, words = "; -2")

@@ -498,38 +498,38 @@ public final class PromisesTest {
     check.refused("37: no such tracer", x, x.hull(0, 3, 0), -1, 1);
     check.refused("38: no such branch", x, x.corner(0, 0, 2, 0), -1, 1);
     check.refused("39: no such linkage", x, x.hullArea(4, 0, 0), -1, 1);
-    due("38: the circle's leftmost, its lowest", x.corner(0, 1, 0, 0), lowestOfLeftmost(x));
+    circle(Check.with(ALL));
+  }
+
+  /** The hull of the circle that the pin goes on, looked at point by point. */
+  private void circle(CrankBranches x) {
+    int[][] at = new int[40][2];
+    int first = 0;
+    for (int k = 0; k < 40; k++) {
+      at[k] = new int[] {x.traced(0, 1, k, 0, 0), x.traced(0, 1, k, 0, 1)};
+      boolean before = at[k][0] == at[first][0] ? at[k][1] < at[first][1] : at[k][0] < at[first][0];
+      first = before ? k : first;
+    }
+    due("38: the circle's leftmost, its lowest", x.corner(0, 1, 0, 0), first);
     int corners = x.hull(0, 1, 0);
+    int[][] hull = new int[corners][];
+    for (int j = 0; j < corners; j++) {
+      hull[j] = at[x.corner(0, 1, 0, j)];
+    }
     long twice = 0;
     for (int j = 0; j < corners; j++) {
-      int here = x.corner(0, 1, 0, j);
-      int next = x.corner(0, 1, 0, (j + 1) % corners);
-      int over = x.corner(0, 1, 0, (j + 2) % corners);
-      twice += (long) at(x, here, 0) * at(x, next, 1) - (long) at(x, next, 0) * at(x, here, 1);
-      long bend = (long) (at(x, next, 0) - at(x, here, 0)) * (at(x, over, 1) - at(x, here, 1))
-          - (long) (at(x, next, 1) - at(x, here, 1)) * (at(x, over, 0) - at(x, here, 0));
-      due("37: turning left at " + j, bend > 0 ? 1 : 0, 1);
+      int[] next = hull[(j + 1) % corners];
+      twice += (long) hull[j][0] * next[1] - (long) next[0] * hull[j][1];
+      due("37: turning left at " + j, bend(hull[j], next, hull[(j + 2) % corners]) > 0 ? 1 : 0, 1);
       for (int k = 0; k < 40; k++) {
-        long side = (long) (at(x, next, 0) - at(x, here, 0)) * (at(x, k, 1) - at(x, here, 1))
-            - (long) (at(x, next, 1) - at(x, here, 1)) * (at(x, k, 0) - at(x, here, 0));
-        due("37: all within", side >= 0 ? 1 : 0, 1);
+        due("37: all within", bend(hull[j], next, at[k]) >= 0 ? 1 : 0, 1);
       }
     }
     due("39: hullArea", x.hullArea(0, 1, 0), twice);
   }
 
-  private static int at(CrankBranches x, int k, int what) {
-    return x.traced(0, 1, k, 0, what);
-  }
-
-  private static int lowestOfLeftmost(CrankBranches x) {
-    int found = 0;
-    for (int k = 1; k < 40; k++) {
-      if (at(x, k, 0) < at(x, found, 0) || at(x, k, 0) == at(x, found, 0) && at(x, k, 1) < at(x, found, 1)) {
-        found = k;
-      }
-    }
-    return found;
+  private static long bend(int[] from, int[] by, int[] to) {
+    return (long) (by[0] - from[0]) * (to[1] - from[1]) - (long) (by[1] - from[1]) * (to[0] - from[0]);
   }
 
   // promises 40, 41
